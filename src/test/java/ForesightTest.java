@@ -184,6 +184,9 @@ public final class ForesightTest {
         SaltOrder faulty = Orders.inArrears(8);
         faulty.throwSalt(0, 1, 2);
         Expect.same("bestPinch(0) with 8 and a fault of 4", faulty.bestPinch(0), 8);
+        SaltOrder little = Orders.inArrears(9, 5);
+        little.throwSalt(0, 1, 2);
+        Expect.same("bestPinch(0) with 9, a fault of 4 and salt 3", little.bestPinch(0), 3);
         SaltOrder later = Orders.inArrears(2);
         later.throwSalt(0, 1, 5);
         Expect.same("bestPinch(0) with 2 and a fault of 10", later.bestPinch(0), 2);
@@ -256,6 +259,9 @@ public final class ForesightTest {
         pair.spill(1, 11);
         pair.pass(1);
         Expect.same("meanLuck() of 51, 48", pair.meanLuck(), 49.5);
+        SaltOrder full = Orders.withMembers(8);
+        full.luckIn(7, 5);
+        Expect.same("meanLuck() of 8 behind luckIn", full.meanLuck(), 50.0);
     }
 
     private static void promise34Digest() {
