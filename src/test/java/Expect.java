@@ -1,4 +1,6 @@
 import java.util.Objects;
+import java.util.function.Consumer;
+import java.util.function.Supplier;
 
 /** Counts and prints what is not as it is due; a test's main ends with {@link #end}. */
 final class Expect {
@@ -28,6 +30,17 @@ final class Expect {
         long before = order.digest();
         refused(what, due, call);
         same("digest() behind the refused " + what, order.digest(), before);
+    }
+
+    /**
+     * The call is refused by a new order, which then answers everything as one that was not called.
+     * Both orders are new, so that neither comes near its 512th call.
+     */
+    static void refusedByNew(String what, Supplier<SaltOrder> made, Class<? extends RuntimeException> due,
+            Consumer<SaltOrder> call) {
+        SaltOrder called = made.get();
+        refused(what, due, () -> call.accept(called));
+        same("all answers behind the refused " + what, Answers.of(called), Answers.of(made.get()));
     }
 
     static Class<?> thrownBy(Call call) {

@@ -25,16 +25,6 @@ public final class ForesightTest {
         Expect.end();
     }
 
-    /** Of one member with this luck, below 50, and these arrears. */
-    private static SaltOrder withLuck(int luck, int arrears) {
-        SaltOrder order = Orders.withMembers(1);
-        order.bringSalt(500);
-        order.spill(0, 1);
-        order.pass(50 - luck);
-        Orders.spillInParts(order, 0, arrears - 1);
-        return order;
-    }
-
     private static void promise28LuckIn() {
         SaltOrder clear = Orders.withMembers(1);
         Expect.same("luckIn(0, 1) without arrears", clear.luckIn(0, 1), 51);
@@ -121,7 +111,7 @@ public final class ForesightTest {
         more.pass(11);
         more.spill(0, 1);
         Expect.same("daysUntilUnlucky(0) with luck 61", more.daysUntilUnlucky(0), -1);
-        Expect.same("daysUntilUnlucky(0) without luck", withLuck(0, 1).daysUntilUnlucky(0), 0);
+        Expect.same("daysUntilUnlucky(0) without luck", Orders.withLuck(0, 1).daysUntilUnlucky(0), 0);
         SaltOrder eating = Orders.inArrears(99);
         eating.doPenance(0, 3);
         Expect.same("daysUntilUnlucky(0) with 99 and 3 lumps", eating.daysUntilUnlucky(0), 9);
@@ -172,8 +162,8 @@ public final class ForesightTest {
     }
 
     private static void promise31LooksFourteenDaysAhead() {
-        Expect.same("bestPinch(0) with 11, luck 15", withLuck(15, 11).bestPinch(0), 1);
-        Expect.same("bestPinch(0) with 11, luck 14", withLuck(14, 11).bestPinch(0), 0);
+        Expect.same("bestPinch(0) with 11, luck 15", Orders.withLuck(15, 11).bestPinch(0), 1);
+        Expect.same("bestPinch(0) with 11, luck 14", Orders.withLuck(14, 11).bestPinch(0), 0);
     }
 
     /** A pinch too large is a fault in its turn, and what is in the ledger already comes on top. */
@@ -213,8 +203,8 @@ public final class ForesightTest {
     }
 
     private static void promise32LooksTwentyDaysAhead() {
-        Expect.same("bestPenance(0) with 40, luck 23", withLuck(23, 40).bestPenance(0), 9);
-        Expect.same("bestPenance(0) with 40, luck 22", withLuck(22, 40).bestPenance(0), 0);
+        Expect.same("bestPenance(0) with 40, luck 23", Orders.withLuck(23, 40).bestPenance(0), 9);
+        Expect.same("bestPenance(0) with 40, luck 22", Orders.withLuck(22, 40).bestPenance(0), 0);
     }
 
     private static void promise32KnowsTheAudit() {
