@@ -1,4 +1,3 @@
-import java.util.ArrayList;
 import java.util.List;
 import java.util.function.Consumer;
 import java.util.function.Supplier;
@@ -9,6 +8,10 @@ import java.util.function.Supplier;
  * Behind each refused call all answers are as they were.
  */
 public final class RefusalsTest {
+    private interface Question {
+        void ask(SaltOrder order, int number);
+    }
+
     private static final int[] COUNTS = {0, 1, 2, 7, 8};
 
     public static void main(String[] args) {
@@ -31,11 +34,22 @@ public final class RefusalsTest {
         penanceNamesNoMemberFirst();
         bringTooFewOrTooManyGrains();
         passTooFewOrTooManyDays();
-        questionsAboutNoMember();
-        questionsAboutNoThrow();
+        luckOfNoMember();
+        arrearsOfNoMember();
+        lumpsOfNoMember();
+        dailyLossOfNoMember();
+        memberOfNoThrow();
+        isLeftOfNoThrow();
+        grainsOfNoThrow();
+        excessOfNoThrow();
+        arrearsByAuditOfNoMember();
         luckInOfNoMember();
         luckInTooFewOrTooManyDays();
         luckInNamesNoMemberFirst();
+        daysUntilClearOfNoMember();
+        daysUntilUnluckyOfNoMember();
+        bestPinchOfNoMember();
+        bestPenanceOfNoMember();
         Expect.end();
     }
 
@@ -288,78 +302,93 @@ public final class RefusalsTest {
 
     // ---- promises 11 to 14, 25 and 29 to 32
 
-    private static List<Consumer<SaltOrder>> questionsAbout(int member) {
-        List<Consumer<SaltOrder>> questions = new ArrayList<>();
-        questions.add(order -> order.luckOf(member));
-        questions.add(order -> order.arrearsOf(member));
-        questions.add(order -> order.lumpsOf(member));
-        questions.add(order -> order.dailyLoss(member));
-        questions.add(order -> order.arrearsByAudit(member));
-        questions.add(order -> order.daysUntilClear(member));
-        questions.add(order -> order.daysUntilUnlucky(member));
-        questions.add(order -> order.bestPinch(member));
-        questions.add(order -> order.bestPenance(member));
-        return questions;
+    private static void luckOfNoMember() {
+        onlyOfMembers("luckOf", SaltOrder::luckOf);
     }
 
-    private static void questionsAboutNoMember() {
+    private static void arrearsOfNoMember() {
+        onlyOfMembers("arrearsOf", SaltOrder::arrearsOf);
+    }
+
+    private static void lumpsOfNoMember() {
+        onlyOfMembers("lumpsOf", SaltOrder::lumpsOf);
+    }
+
+    private static void dailyLossOfNoMember() {
+        onlyOfMembers("dailyLoss", SaltOrder::dailyLoss);
+    }
+
+    private static void arrearsByAuditOfNoMember() {
+        onlyOfMembers("arrearsByAudit", SaltOrder::arrearsByAudit);
+    }
+
+    private static void daysUntilClearOfNoMember() {
+        onlyOfMembers("daysUntilClear", SaltOrder::daysUntilClear);
+    }
+
+    private static void daysUntilUnluckyOfNoMember() {
+        onlyOfMembers("daysUntilUnlucky", SaltOrder::daysUntilUnlucky);
+    }
+
+    /** A full ledger answers 0, but not of one whom there is not. */
+    private static void bestPinchOfNoMember() {
+        onlyOfMembers("bestPinch", SaltOrder::bestPinch);
+    }
+
+    private static void bestPenanceOfNoMember() {
+        onlyOfMembers("bestPenance", SaltOrder::bestPenance);
+    }
+
+    private static void onlyOfMembers(String name, Question question) {
         for (int count : COUNTS) {
-            for (int wrong : Wrong.numbers(count)) {
-                everyIsRefused("member " + wrong + " of " + count, () -> mixed(count), questionsAbout(wrong));
-            }
-            for (int member = 0; member < count; member++) {
-                everyIsTaken("member " + member + " of " + count, mixed(count), questionsAbout(member));
-            }
+            onlyOfThese(name, () -> mixed(count), count, question);
         }
-        for (int wrong : Wrong.numbers(2)) {
-            everyIsRefused("member " + wrong, () -> withThrows(30), questionsAbout(wrong));
-            everyIsRefused("member " + wrong, RefusalsTest::withFullLedgerAndNoSalt, questionsAbout(wrong));
-        }
+        onlyOfThese(name, () -> withThrows(30), 2, question);
+        onlyOfThese(name, RefusalsTest::withFullLedgerAndNoSalt, 2, question);
     }
 
-    private static void everyIsRefused(String what, Supplier<SaltOrder> made, List<Consumer<SaltOrder>> questions) {
-        for (int i = 0; i < questions.size(); i++) {
-            Expect.refusedByNew("question " + i + ", " + what, made, Wrong.INDEX, questions.get(i));
+    private static void onlyOfThese(String name, Supplier<SaltOrder> made, int count, Question question) {
+        for (int wrong : Wrong.numbers(count)) {
+            Expect.refusedByNew(name + "(" + wrong + ") of " + count, made, Wrong.INDEX,
+                    order -> question.ask(order, wrong));
         }
-    }
-
-    private static void everyIsTaken(String what, SaltOrder order, List<Consumer<SaltOrder>> questions) {
-        for (int i = 0; i < questions.size(); i++) {
-            Consumer<SaltOrder> question = questions.get(i);
-            taken("question " + i + ", " + what, () -> question.accept(order));
+        SaltOrder order = made.get();
+        for (int number = 0; number < count; number++) {
+            int right = number;
+            taken(name + "(" + right + ") of " + count, () -> question.ask(order, right));
         }
     }
 
     // ---- promises 20 to 23
 
-    private static List<Consumer<SaltOrder>> questionsAboutThrow(int entry) {
-        List<Consumer<SaltOrder>> questions = new ArrayList<>();
-        questions.add(order -> order.memberOf(entry));
-        questions.add(order -> order.isLeft(entry));
-        questions.add(order -> order.grainsOf(entry));
-        questions.add(order -> order.excessOf(entry));
-        return questions;
+    private static void memberOfNoThrow() {
+        onlyOfThrows("memberOf", SaltOrder::memberOf);
+    }
+
+    private static void isLeftOfNoThrow() {
+        onlyOfThrows("isLeft", SaltOrder::isLeft);
+    }
+
+    private static void grainsOfNoThrow() {
+        onlyOfThrows("grainsOf", SaltOrder::grainsOf);
+    }
+
+    private static void excessOfNoThrow() {
+        onlyOfThrows("excessOf", SaltOrder::excessOf);
+    }
+
+    private static void onlyOfThrows(String name, Question question) {
+        for (int count : new int[] {0, 1, 2, 29, 30}) {
+            onlyOfThese(name, () -> withThrows(count), count, question);
+        }
+        onlyOfThese(name + ", audited", RefusalsTest::audited, 0, question);
+        onlyOfThese(name + ", without members", SaltOrder::new, 0, question);
     }
 
     private static SaltOrder audited() {
         SaltOrder order = withThrows(30);
         order.audit();
         return order;
-    }
-
-    private static void questionsAboutNoThrow() {
-        for (int count : new int[] {0, 1, 2, 29, 30}) {
-            for (int wrong : Wrong.numbers(count)) {
-                everyIsRefused("throw " + wrong + " of " + count, () -> withThrows(count), questionsAboutThrow(wrong));
-            }
-            for (int entry = 0; entry < count; entry++) {
-                everyIsTaken("throw " + entry + " of " + count, withThrows(count), questionsAboutThrow(entry));
-            }
-        }
-        for (int wrong : new int[] {0, 1, 29}) {
-            everyIsRefused("throw " + wrong + " behind an audit", RefusalsTest::audited, questionsAboutThrow(wrong));
-            everyIsRefused("throw " + wrong + " without members", SaltOrder::new, questionsAboutThrow(wrong));
-        }
     }
 
     // ---- promise 28

@@ -27,7 +27,7 @@ final class Wrong {
     /** 8 and 30 are where a full order and a full ledger end. */
     private static List<Integer> outside(int least, int most) {
         List<Integer> wrong = new ArrayList<>();
-        for (int number : new int[] {least - 1, most + 1, -most, -30, -8, 8, 30, 31, 100, 256 + least, 65536 + least,
+        for (int number : new int[] {least - 1, most + 1, 0, 1, 29, -most, -30, -8, 8, 30, 31, 100, 256 + least, 65536 + least,
                 -256 + least, -65536 + least, Integer.MIN_VALUE, Integer.MIN_VALUE + least,
                 Integer.MAX_VALUE - 1, Integer.MAX_VALUE}) {
             if (number < least || number > most) {
